@@ -35,6 +35,8 @@ public final class BuyingTest {
         // behind four years: one 80000, two 25312; then (3 * 80000 + 9 * 25312) / 12 = 38984
         Checks.due("18 five years", ear.buy(5, 0), 98984);
         Checks.due("18 five years", ear.buy(5, 1), 1);
+        Checks.due("18 no years behind others", ear.buy(0, 1), 0);
+        Checks.due("18 no years behind others", ear.buy(0, 0), 0);
         OneEarOfTwo dear = prices(90, 60, 3, 100);
         Checks.due("18 a pair", dear.buy(1, 0), 60000);
         Checks.due("18 a pair", dear.buy(1, 1), 2);
@@ -189,6 +191,9 @@ public final class BuyingTest {
         Checks.due("22 x", ear.grass(16, 0), 2);
         Checks.due("22 y", ear.grass(1000, 0), 1);
         Checks.due("22 far", ear.grass(9999, 0), 2);
+        OneEarOfTwo high = Checks.withPlaces(9999, 1, 9899, 1);
+        Checks.due("22 y 99", high.grass(9999, 0), 0);
+        Checks.due("22 y 98", high.grass(9899, 0), 1);
         Checks.due("22 x and y together", ear.grass(707, 0), 0);
         Checks.due("22 share", ear.grass(9999, 1), 571428);
         ear.mend(0, 5, 9);
@@ -259,6 +264,8 @@ public final class BuyingTest {
         ear.mend(0, 5, 0);
         ear.mend(1, 2, 3);
         Checks.due("23 surely", ear.drawn(0, 5, 30, 0), 30);
+        ear.mend(1, 2, 1);
+        Checks.due("23 odds of 1 alone", ear.drawn(0, 5, 30, 0), 30);
         Checks.due("23 surely, at minute 9", ear.drawn(0, 5, 30, 1), 270);
     }
 }

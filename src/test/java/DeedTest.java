@@ -103,6 +103,8 @@ public final class DeedTest {
         ear.place(0, 1);
         Checks.due("27 a place came since", ear.of(0, 14), 0);
         Checks.due("27 a place came since: one is at none", ear.led(5), -2);
+        Checks.due("27 one place", ear.again(), 1000000);
+        Checks.due("27 at the only place", ear.led(5), 0);
         ear.place(0, 1);
         ear.place(0, 1);
         Checks.due("27 cut", ear.again(), 999999);
@@ -190,6 +192,17 @@ public final class DeedTest {
         Checks.due("30 at no place", nowhere.led(5), -2);
     }
 
+    /** How many of the 47 mends of fortyChanges() are changes that came ahead of the last forty. */
+    private static int mostAhead() {
+        OneEarOfTwo ear = Checks.withPlaces(0, 0, 0, 0, 0, 0, 0, 0, 0, 0);
+        int changes = 0;
+        for (int i = 0; i < 47; i++) {
+            int becomes = i % 9 + 1;
+            if (ear.mend(i * 7 % 5, i * 3 % 4, becomes) != becomes) changes++;
+        }
+        return changes - 40;
+    }
+
     private static void undoAndRedo() {
         OneEarOfTwo ear = yard();
         Checks.due("31 one change", ear.count(2), 1);
@@ -228,6 +241,19 @@ public final class DeedTest {
     }
 
     private static void fortyChanges() {
+        OneEarOfTwo places = Checks.withPlaces(0, 0, 0, 0, 0, 0, 0, 0, 0, 0);
+        // the first ones are forgotten: what lies behind them must still be of its own PLACE
+        for (int i = 0; i < 47; i++) places.mend(i * 7 % 5, i * 3 % 4, i % 9 + 1);
+        int[] shown = new int[20];
+        for (int i = 0; i < 20; i++) shown[i] = places.of(i / 4, i % 4);
+        int kept = places.count(2);
+        Checks.due("31 forty of places", kept, 40);
+        for (int i = 0; i < 40; i++) places.undo();
+        OneEarOfTwo first = Checks.withPlaces(0, 0, 0, 0, 0, 0, 0, 0, 0, 0);
+        for (int i = 0; first.count(2) < mostAhead(); i++) first.mend(i * 7 % 5, i * 3 % 4, i % 9 + 1);
+        for (int i = 0; i < 20; i++) Checks.due("31 number " + i, places.of(i / 4, i % 4), first.of(i / 4, i % 4));
+        for (int i = 0; i < 40; i++) places.redo();
+        for (int i = 0; i < 20; i++) Checks.due("32 number " + i, places.of(i / 4, i % 4), shown[i]);
         OneEarOfTwo ear = new OneEarOfTwo();
         for (int i = 1; i <= 45; i++) {
             ear.mend(0, i % 2 == 0 ? 8 : 9, 1000 + i);

@@ -152,6 +152,10 @@ public final class PlacesTest {
         Checks.due("7 fault", Checks.tell(ear, "8+"), -102);
         Checks.due("7 tape is empty behind a fault", ear.count(1), 0);
         Checks.due("7 a fault leaves the law", ear.hears(0, 0), 7);
+        Checks.due("7 another law", Checks.tell(ear, "h-d+3"), 1);
+        Checks.due("7 gives", ear.hears(0, 0), 8);
+        Checks.due("7 fault", Checks.tell(ear, "1*2*d*2+"), -108);
+        Checks.due("7 a fault leaves the law", ear.hears(0, 0), 8);
         Checks.due("7 another law", Checks.tell(ear, "4"), 1);
         Checks.due("7 gives", ear.hears(0, 0), 4);
         StringBuilder longest = new StringBuilder("1");
@@ -231,6 +235,10 @@ public final class PlacesTest {
         gives("2&0", 0);
         gives("0|7", 1);
         gives("0|0", 0);
+        gives("(0|0)+(0&0)+(1<0)+(1=0)+(0>1)+!1+7", 7);
+        gives("1?0|1", 1);
+        gives("1?(0|1)+2;5", 3);
+        gives("0|1?3;5", 3);
         gives("1|0&0", 1);
         gives("0&0|1", 1);
         gives("0&(0|1)", 0);
@@ -296,13 +304,15 @@ public final class PlacesTest {
         faultAt("!!!!!!!1", 6);
         faultAt("-------1", 6);
         faultAt("-(!(-(!1)))", 6);
+        faultAt("1?!!!!!!!1", 8);
+        faultAt("1;(((((((1", 8);
         faultAt("-(!(-((1))))", 6);
         faultAt("1&&1", 2);
         faultAt("1||1", 2);
         faultAt("1==1", 2);
         faultAt("1<=1", 2);
         faultAt("2*/3", 2);
-        for (String text : new String[] {"------1", "2*-3", "2%!3", "1&2<3&4<5|6", "1?2;3?4;5", "-(!(-(1)))"}) {
+        for (String text : new String[] {"------1", "1?!!!!!!1", "1?((((((1))))));!!!!!!1", "2*-3", "2%!3", "1&2<3&4<5|6", "1?2;3?4;5", "-(!(-(1)))"}) {
             Checks.due("7 " + text, Checks.tell(new OneEarOfTwo(), text), 1);
         }
         OneEarOfTwo ear = new OneEarOfTwo();

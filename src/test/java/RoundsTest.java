@@ -101,6 +101,15 @@ public final class RoundsTest {
         Checks.due("9 from place 0 on", ear.round(0, -2), 4);
         ear.mend(0, 0, 5);
         Checks.due("9 x and y together", ear.round(0, -2), 5);
+        OneEarOfTwo alone = Checks.withPlaces(0, 3);
+        alone.mend(0, 5, 7);
+        Checks.tell(alone, "6");
+        Checks.lay(alone, 0, 0, 18);
+        Checks.due("9 the last millionth is left", alone.round(0, 0), 1);
+        Checks.due("10 the last millionth is left", alone.ifNot(0, 0), 0);
+        Checks.lay(alone, 0, 0, 19);
+        Checks.due("9 the last millionth goes", alone.round(0, 0), 0);
+        Checks.due("10 the last millionth goes", alone.ifNot(0, 0), -2);
         OneEarOfTwo thirds = Checks.withPlaces(0, 1, 0, 1, 0, 1);
         Checks.lay(thirds, 0, 7, 1);
         Checks.due("9 shares are cut", thirds.round(0, 2), 333333);
@@ -171,6 +180,9 @@ public final class RoundsTest {
         Checks.lay(gone, 0);
         Checks.due("10 GONE alone", gone.ifNot(0, 0), -2);
         Checks.due("10 GONE alone", gone.ifNot(0, 1), 0);
+        gone.mend(0, 5, 0);
+        Checks.due("10 no odds at all", gone.ifNot(0, 0), -2);
+        Checks.due("10 no odds at all", gone.ifNot(0, 1), 0);
     }
 
     private static void by() {
@@ -217,6 +229,9 @@ public final class RoundsTest {
         Checks.tell(ear, "0");
         Checks.due("12 none grows: the least", ear.next(0, 1, 0), 0);
         Checks.due("12 none grows", ear.next(0, 1, 1), 0);
+        OneEarOfTwo eight = Checks.withPlaces(0, 1, 0, 1, 0, 1, 0, 1, 0, 1, 0, 1, 0, 1, 0, 9);
+        Checks.lay(eight, 0);
+        Checks.due("12 eight places", eight.next(0, 1, 0), 7);
         OneEarOfTwo like = Checks.withPlaces(0, 0, 0, 5, 0, 5);
         Checks.lay(like, 0);
         Checks.due("12 of like ones the least", like.next(0, 1, 0), 1);
@@ -250,6 +265,25 @@ public final class RoundsTest {
         Checks.due("13 k goes on", ear.stay(0, 1), 0);
         Checks.tell(ear, "m<4?1;0");
         Checks.due("13 m goes on", ear.stay(0, 1), 3);
+        Checks.tell(ear, "k<5?1;0");
+        Checks.due("13 k goes on from minute to minute", ear.stay(0, 1), 4);
+        Checks.lay(ear, 1, 0, 1, 1, 1, 0, 2);
+        Checks.due("13 k of the place where one is", ear.stay(1, 1), 2);
+        OneEarOfTwo slow = Checks.withPlaces(0, 1);
+        Checks.tell(slow, "k=99?0;k%9=0?1;0");
+        Checks.lay(slow, 0, 0, 1);
+        Checks.due("13 v 0", slow.stay(0, 0), 99);
+        Checks.tell(slow, "k<1?0;k<30?1;k<99?12;1");
+        Checks.due("13 what is 0 is less than 1", slow.stay(0, 1), 30);
+        Checks.tell(slow, "k=99?0;1");
+        Checks.due("13 all but the last", slow.stay(0, 1), 98);
+        Checks.tell(slow, "k=100?0;1");
+        Checks.due("13 all 99", slow.stay(0, 1), 99);
+        Checks.tell(slow, "k=1?0;1");
+        Checks.due("13 a minute that finds nothing ends it", slow.stay(0, 1), 0);
+        Checks.tell(slow, "1");
+        Checks.due("13 as far as there is something", slow.stay(0, 2), lastMinuteOf(2));
+        for (int v = 1; v < 60000; v += 991) Checks.due("13 v " + v, slow.stay(0, v), lastMinuteOf(v));
         OneEarOfTwo late = Checks.withPlaces(0, 1);
         Checks.tell(late, "m<950?0;1");
         int[] full = new int[20];
@@ -260,6 +294,16 @@ public final class RoundsTest {
         Checks.tell(late, "m<989?0;k<990?0;1");
         Checks.lay(late, 1, 0, 99);
         Checks.due("13 99", late.stay(1, 0), 99);
+    }
+
+    /** Behind one minute at a place of a million, one of twelve each minute: how many more find v. */
+    private static int lastMinuteOf(int v) {
+        int share = 1000000 * 11 / 12, more = 0;
+        while (more < 99 && share - share * 11 / 12 >= v) {
+            share = share * 11 / 12;
+            more++;
+        }
+        return more;
     }
 
     private static void best() {
@@ -287,6 +331,11 @@ public final class RoundsTest {
         Checks.tell(ear, "p=2&m<5?12;p=1&m<8?12;0");
         Checks.due("14 order", ear.best(7, 1, -1), 600000);
         for (int k = 0; k < 3; k++) Checks.due("14 order", ear.best(7, 1, k), 2 - k);
+        Checks.tell(ear, "k=0?12;0");
+        Checks.due("14 k begins at 0 in each place", ear.best(7, 1, -1), 900000);
+        Checks.tell(ear, "k=1?12;0");
+        Checks.due("14 k goes on", ear.best(7, 2, -1), 900000);
+        Checks.due("14 k goes on", ear.best(7, 1, -1), 0);
         OneEarOfTwo many = Checks.withPlaces(0, 1, 0, 1, 0, 1, 0, 1, 0, 1, 0, 1, 0, 1, 0, 1);
         Checks.due("14 six", many.best(63, 1, 5), 5);
         Checks.due("14 seven", many.best(127, 1, -1), -5);
@@ -303,6 +352,15 @@ public final class RoundsTest {
         Checks.tell(ear, "p=1?12*(m<297);p=2?12*(m>494&m<500);p=3?12*(m>791&m<800);12");
         Checks.due("14 beyond 999 finds nothing", ear.best(30, 99, -1), 900000);
         for (int k = 0; k < 4; k++) Checks.due("14 beyond 999", ear.best(30, 99, k), k + 1);
+        // 198 yards to 2, 197 to 3, and 9 by way of 4 and 5 to 6; six times 99 more: 998
+        OneEarOfTwo exact = Checks.withPlaces(0, 0, 0, 10, 9999, 10, 1, 10, 5, 10, 9, 10, 10, 10);
+        exact.mend(0, 7, 1);
+        Checks.tell(exact, "p=1?12*(m=0);p=2?12*(m=297);p=3?12*(m=593);12");
+        Checks.due("14 as far as 998", exact.best(126, 99, -1), 999996);
+        exact.mend(6, 0, 11);
+        Checks.due("14 up to 999", exact.best(126, 99, -1), 999996);
+        exact.mend(6, 0, 12);
+        Checks.due("14 not up to 1000", exact.best(126, 99, -1), 833330);
         OneEarOfTwo last = Checks.withPlaces(0, 0, 9999, 1);
         last.mend(0, 7, 1);
         Checks.lay(last, 0, 0, 99, 0, 99, 0, 99, 0, 99, 0, 99, 0, 99, 0, 99, 0, 99, 1, 9);
@@ -342,6 +400,11 @@ public final class RoundsTest {
         Checks.due("16 together", ear.seen(3040, 30), 2);
         Checks.due("16 together", ear.seen(3040, 40), 6);
         Checks.due("16 far", ear.seen(9999, 99), 0);
+        ear.mend(2, 0, 99);
+        ear.mend(2, 1, 99);
+        Checks.due("16 the farthest", ear.seen(9999, 0), 4);
+        Checks.due("16 next to it", ear.seen(9899, 0), 0);
+        Checks.due("16 next to it", ear.seen(9899, 1), 4);
         Checks.due("16 xy below", ear.seen(-1, 5), -1);
         Checks.due("16 xy above", ear.seen(10000, 5), -1);
         Checks.due("16 yards below", ear.seen(0, -1), -1);
@@ -359,9 +422,17 @@ public final class RoundsTest {
         Checks.lay(ear, 0, 2, 1);
         // 12 * 100000 / 900000
         Checks.due("17 is cut", ear.dead(0), 1);
+        Checks.lay(ear, 0, 0, 1);
+        // 12 * 150000 / 850000
+        Checks.due("17 at place 0", ear.dead(0), 2);
         Checks.tell(ear, "12");
         Checks.lay(ear, 0, 0, 1, 1, 1, 2, 1);
         Checks.due("17 GONE alone is left", ear.dead(0), 0);
+        for (int p = 0; p < 3; p++) ear.mend(p, 2, 0);
+        ear.mend(0, 5, 1);
+        Checks.due("17 GONE alone, of 1", ear.dead(0), 0);
+        for (int p = 0; p < 3; p++) ear.undo();
+        ear.undo();
         ear.mend(0, 5, 0);
         Checks.due("17 all are 0", ear.dead(0), -2);
         Checks.tell(ear, "p=2?0;12");
