@@ -191,6 +191,8 @@ public final class BuyingTest {
         Checks.due("22 x", ear.grass(16, 0), 2);
         Checks.due("22 y", ear.grass(1000, 0), 1);
         Checks.due("22 far", ear.grass(9999, 0), 2);
+        OneEarOfTwo low = Checks.withPlaces(0, 1, 100, 1);
+        Checks.due("22 y is a hundredth of xy", low.grass(100, 0), 1);
         OneEarOfTwo high = Checks.withPlaces(9999, 1, 9899, 1);
         Checks.due("22 y 99", high.grass(9999, 0), 0);
         Checks.due("22 y 98", high.grass(9899, 0), 1);

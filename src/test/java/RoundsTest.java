@@ -331,6 +331,9 @@ public final class RoundsTest {
         Checks.tell(ear, "p=2&m<5?12;p=1&m<8?12;0");
         Checks.due("14 order", ear.best(7, 1, -1), 600000);
         for (int k = 0; k < 3; k++) Checks.due("14 order", ear.best(7, 1, k), 2 - k);
+        Checks.tell(ear, "0");
+        Checks.due("14 nothing is found", ear.best(7, 1, -1), 0);
+        for (int k = 0; k < 3; k++) Checks.due("14 nothing is found: the first by numbers", ear.best(7, 1, k), k);
         Checks.tell(ear, "k=0?12;0");
         Checks.due("14 k begins at 0 in each place", ear.best(7, 1, -1), 900000);
         Checks.tell(ear, "k=1?12;0");
@@ -400,6 +403,7 @@ public final class RoundsTest {
         Checks.due("16 together", ear.seen(3040, 30), 2);
         Checks.due("16 together", ear.seen(3040, 40), 6);
         Checks.due("16 far", ear.seen(9999, 99), 0);
+        Checks.due("16 y is a hundredth of xy", ear.seen(3000, 0), 4);
         ear.mend(2, 0, 99);
         ear.mend(2, 1, 99);
         Checks.due("16 the farthest", ear.seen(9999, 0), 4);
