@@ -326,6 +326,10 @@ public final class BuyingEdgesTest {
         ear.mend(0, 2, 0);
         Checks.due("all 0", ear.drawn(0, 1, 30, 0), 0);
         Checks.due("all 0", ear.drawn(0, 1, 30, 1), 0);
+        OneEarOfTwo eight = Checks.withPlaces(0, 0, 0, 0, 0, 0, 0, 0, 0, 0, 0, 0, 0, 0, 0, 0);
+        Checks.tell(eight, "12");
+        Checks.lay(eight, 0, 0, 1, 1, 1, 2, 1, 3, 1, 4, 1, 5, 1, 6, 1, 7, 1);
+        Checks.due("all eight 0", eight.drawn(0, 1, 30, 0), 0);
         ear.mend(0, 5, 99);
         Checks.due("GONE alone", ear.drawn(0, 1, 30, 0), 0);
         ear.mend(0, 2, 99);

@@ -559,7 +559,11 @@ public final class RoundEdgesTest {
         for (int k = 0; k < 4; k++) Checks.due("third: the " + k + "th", ear.best(60, 1, k), third[k]);
         Checks.tell(ear, "p=4&!(m=0)?0;12");
         int[] first = {4, 2, 3, 5};
+        Checks.due("it is found in all four", ear.best(60, 1, -1), 500000);
         for (int k = 0; k < 4; k++) Checks.due("first: the " + k + "th", ear.best(60, 1, k), first[k]);
+        Checks.tell(ear, "0");
+        Checks.due("nothing is found", ear.best(60, 1, -1), 0);
+        for (int k = 0; k < 4; k++) Checks.due("nothing is found: the " + k + "th", ear.best(60, 1, k), k + 2);
     }
 
     /** "BEST ROUND": as a ROUND does, each begins at minute 0 at PLACE 0's X, Y, with nothing listened */
